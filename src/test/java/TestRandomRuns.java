@@ -1,0 +1,188 @@
+import java.util.Random;
+
+/** Runs of 512 calls by chance, on a new object and on the plain one side by side. */
+public final class TestRandomRuns {
+    private static final int RUNS = 120;
+    private static final int CALLS = 512;
+
+    private final Due due = new Due();
+    private final Random random;
+    private final int run;
+    private final LeastAlone x = new LeastAlone();
+    private final Plain y = new Plain();
+    private final int big;
+
+    private TestRandomRuns(int run) {
+        this.run = run;
+        random = new Random(run);
+        // Few runs have the largest inns: the plain one is slow there.
+        big = run % 10 == 0 ? 6 : run % 3 == 0 ? 5 : 4;
+    }
+
+    public static void main(String[] args) {
+        for (int run = 0; run < RUNS; run++) {
+            TestRandomRuns test = new TestRandomRuns(run);
+            test.play();
+            if (run == RUNS - 1) {
+                test.due.end("TestRandomRuns, the last run");
+            } else {
+                test.due.end("run " + run);
+            }
+        }
+    }
+
+    private void play() {
+        if (run % 5 != 4) {
+            check("inn", size(), size(), 0);
+        }
+        for (int i = 0; i < CALLS - 1; i++) {
+            choose();
+        }
+    }
+
+    private int size() {
+        return 2 + random.nextInt(big - 1);
+    }
+
+    private int from(int least, int most) {
+        return least + random.nextInt(most - least + 1);
+    }
+
+    private int man() {
+        return random.nextInt(12) == 0 ? from(-2, 8) : random.nextInt(y.told(1));
+    }
+
+    private int number() {
+        return random.nextInt(12) == 0 ? from(-2, 8) : 1 + random.nextInt(y.told(2));
+    }
+
+    private int bit() {
+        return random.nextInt(15) == 0 ? from(-2, 3) : random.nextInt(2);
+    }
+
+    private int set() {
+        return random.nextInt(15) == 0 ? from(-3, 70) : 1 + random.nextInt((1 << y.told(1)) - 1);
+    }
+
+    private void writePad() {
+        check("wipe", 0, 0, 0);
+        int length = random.nextInt(6) == 0 ? from(0, 8) : y.told(1);
+        boolean open = random.nextBoolean();
+        for (int i = 0; i < length; i++) {
+            int sign = random.nextInt(40) == 0 ? from(30, 128) : '0' + from(random.nextInt(2), y.told(2));
+            check("say", open && random.nextInt(3) == 0 ? '?' : sign, 0, 0);
+        }
+        check("fault", 0, 0, 0);
+    }
+
+    private void choose() {
+        switch (random.nextInt(33)) {
+            case 0 -> {
+                if (random.nextInt(4) == 0) {
+                    check("inn", random.nextInt(8) == 0 ? from(0, 8) : size(), random.nextInt(8) == 0 ? from(0, 8) : size(), 0);
+                }
+            }
+            case 1 -> check("rule", random.nextInt(10) == 0 ? from(-2, 6) : random.nextInt(4), 0, 0);
+            case 2 -> check("say", random.nextInt(5) == 0 ? from(30, 130) : '0' + random.nextInt(7), 0, 0);
+            case 3, 4 -> writePad();
+            case 5 -> check("fault", 0, 0, 0);
+            case 6, 7 -> check("wins", bit(), 0, 0);
+            case 8, 9 -> check("weight", number(), random.nextInt(4) == 0 ? from(-1, 12) : random.nextInt(4), 0);
+            case 10 -> check("fool", man(), random.nextInt(2) == 0 ? 0 : number(), 0);
+            case 11 -> check("worth", man(), number(), bit());
+            case 12 -> check("best", man(), 0, 0);
+            case 13 -> check("mean", man(), bit(), bit());
+            case 14 -> check("nobody", bit(), 0, 0);
+            case 15 -> check("rest", from(0, 9), number(), 0);
+            case 16 -> check("gap", from(0, 9), bit(), 0);
+            case 17 -> check("friends", set(), man(), 0);
+            case 18 -> check("league", set(), bit(), 0);
+            case 19 -> check("spy", man(), 0, 0);
+            case 20 -> check("spied", man(), bit(), 0);
+            case 21 -> check("steps", from(0, 21), 0, 0);
+            case 22 -> check("late", man(), bit(), 0);
+            case 23 -> check("prize", from(0, 1000), random.nextInt(3) == 0 ? 0 : from(-1, 101), bit());
+            case 24 -> check("seen", random.nextInt(9) == 0 ? from(-1, 4) : random.nextInt(3), man(), number());
+            case 25 -> check("seen", 1, man(), number());
+            case 26 -> check("forget", 0, 0, 0);
+            case 27 -> check("fits", from(-2, 7), 0, 0);
+            case 28 -> check("could", man(), 0, 0);
+            case 29 -> check("year", random.nextInt(9) == 0 ? from(-1, 10001) : from(0, 9999), from(0, 100), random.nextInt(2) == 0 ? -1 : man());
+            case 30 -> check("image", bit(), 0, 0);
+            case 31 -> check("restore", bit(), 0, 0);
+            default -> check("told", from(-1, 27), 0, 0);
+        }
+    }
+
+    private void check(String call, int a, int b, int c) {
+        due.is("run " + run + ": " + call + "(" + a + ", " + b + ", " + c + ")", ask(call, a, b, c), askPlain(call, a, b, c));
+    }
+
+    private long ask(String call, int a, int b, int c) {
+        return switch (call) {
+            case "inn" -> x.inn(a, b);
+            case "rule" -> x.rule(a);
+            case "say" -> x.say(a);
+            case "wipe" -> x.wipe();
+            case "fault" -> x.fault();
+            case "wins" -> x.wins(a);
+            case "weight" -> x.weight(a, b);
+            case "fool" -> x.fool(a, b);
+            case "worth" -> x.worth(a, b, c);
+            case "best" -> x.best(a);
+            case "mean" -> x.mean(a, b, c);
+            case "nobody" -> x.nobody(a);
+            case "rest" -> x.rest(a, b);
+            case "gap" -> x.gap(a, b);
+            case "friends" -> x.friends(a, b);
+            case "league" -> x.league(a, b);
+            case "spy" -> x.spy(a);
+            case "spied" -> x.spied(a, b);
+            case "steps" -> x.steps(a);
+            case "late" -> x.late(a, b);
+            case "prize" -> x.prize(a, b, c);
+            case "seen" -> x.seen(a, b, c);
+            case "forget" -> x.forget();
+            case "fits" -> x.fits(a);
+            case "could" -> x.could(a);
+            case "year" -> x.year(a, b, c);
+            case "image" -> x.image(a);
+            case "restore" -> x.restore(a);
+            default -> x.told(a);
+        };
+    }
+
+    private long askPlain(String call, int a, int b, int c) {
+        return switch (call) {
+            case "inn" -> y.inn(a, b);
+            case "rule" -> y.rule(a);
+            case "say" -> y.say(a);
+            case "wipe" -> y.wipe();
+            case "fault" -> y.fault();
+            case "wins" -> y.wins(a);
+            case "weight" -> y.weight(a, b);
+            case "fool" -> y.fool(a, b);
+            case "worth" -> y.worth(a, b, c);
+            case "best" -> y.best(a);
+            case "mean" -> y.mean(a, b, c);
+            case "nobody" -> y.nobody(a);
+            case "rest" -> y.rest(a, b);
+            case "gap" -> y.gap(a, b);
+            case "friends" -> y.friends(a, b);
+            case "league" -> y.league(a, b);
+            case "spy" -> y.spy(a);
+            case "spied" -> y.spied(a, b);
+            case "steps" -> y.steps(a);
+            case "late" -> y.late(a, b);
+            case "prize" -> y.prize(a, b, c);
+            case "seen" -> y.seen(a, b, c);
+            case "forget" -> y.forget();
+            case "fits" -> y.fits(a);
+            case "could" -> y.could(a);
+            case "year" -> y.year(a, b, c);
+            case "image" -> y.image(a);
+            case "restore" -> y.restore(a);
+            default -> y.told(a);
+        };
+    }
+}

@@ -2,17 +2,19 @@ import java.util.Random;
 
 /** Runs of 512 calls by chance, on a new object and on the plain one side by side. */
 public final class TestRandomRuns {
-    private static final int RUNS = 120;
+    private static final int RUNS = 500;
     private static final int CALLS = 512;
 
-    private final Due due = new Due();
+    private final Due due;
     private final Random random;
     private final int run;
     private final LeastAlone x = new LeastAlone();
     private final Plain y = new Plain();
     private final int big;
+    private int calls = 0;
 
-    private TestRandomRuns(int run) {
+    private TestRandomRuns(Due due, int run) {
+        this.due = due;
         this.run = run;
         random = new Random(run);
         // Few runs have the largest inns: the plain one is slow there.
@@ -20,22 +22,19 @@ public final class TestRandomRuns {
     }
 
     public static void main(String[] args) {
-        for (int run = 0; run < RUNS; run++) {
-            TestRandomRuns test = new TestRandomRuns(run);
-            test.play();
-            if (run == RUNS - 1) {
-                test.due.end("TestRandomRuns, the last run");
-            } else {
-                test.due.end("run " + run);
-            }
+        Due due = new Due();
+        int runs = args.length > 0 ? Integer.parseInt(args[0]) : RUNS;
+        for (int run = 0; run < runs; run++) {
+            new TestRandomRuns(due, run).play();
         }
+        due.end("TestRandomRuns");
     }
 
     private void play() {
         if (run % 5 != 4) {
             check("inn", size(), size(), 0);
         }
-        for (int i = 0; i < CALLS - 1; i++) {
+        while (calls < CALLS) {
             choose();
         }
     }
@@ -115,6 +114,11 @@ public final class TestRandomRuns {
     }
 
     private void check(String call, int a, int b, int c) {
+        // What an object answers after its last call is free.
+        if (calls == CALLS) {
+            return;
+        }
+        calls++;
         due.is("run " + run + ": " + call + "(" + a + ", " + b + ", " + c + ")", ask(call, a, b, c), askPlain(call, a, b, c));
     }
 

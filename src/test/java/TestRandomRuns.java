@@ -119,6 +119,16 @@ public final class TestRandomRuns {
             return;
         }
         calls++;
+        compare(call, wild(a), wild(b), wild(c));
+    }
+
+    /** Now and then any number at all. */
+    private int wild(int v) {
+        int chance = random.nextInt(300);
+        return chance == 0 ? random.nextInt() : chance == 1 ? Integer.MIN_VALUE : chance == 2 ? Integer.MAX_VALUE : v;
+    }
+
+    private void compare(String call, int a, int b, int c) {
         due.is("run " + run + ": " + call + "(" + a + ", " + b + ", " + c + ")", ask(call, a, b, c), askPlain(call, a, b, c));
     }
 

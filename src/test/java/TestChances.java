@@ -19,13 +19,6 @@ public final class TestChances {
         DUE.end("TestChances");
     }
 
-    private static LeastAlone at(int n, int m, int law) {
-        LeastAlone x = new LeastAlone();
-        x.inn(n, m);
-        x.rule(law);
-        return x;
-    }
-
     private static void worthIs(LeastAlone x, int man, int number, long upper, long lower) {
         DUE.parts("worth(" + man + ", " + number + ")", x.worth(man, number, 0), x.worth(man, number, 1), upper, lower);
     }
@@ -75,7 +68,7 @@ public final class TestChances {
     }
 
     private static void worthOfTwo() {
-        LeastAlone x = at(2, 2, 0);
+        LeastAlone x = Inns.at(2, 2, 0);
         x.weight(1, 3);
         worthIs(x, 0, 1, 1, 4);
         worthIs(x, 0, 2, 0, 1);
@@ -91,7 +84,7 @@ public final class TestChances {
     }
 
     private static void worthOfThree() {
-        LeastAlone x = at(3, 2, 0);
+        LeastAlone x = Inns.at(3, 2, 0);
         for (int man = 0; man < 3; man++) {
             worthIs(x, man, 1, 1, 4);
             worthIs(x, man, 2, 1, 4);
@@ -103,7 +96,7 @@ public final class TestChances {
     }
 
     private static void worthByTheMiddle() {
-        LeastAlone x = at(3, 3, 2);
+        LeastAlone x = Inns.at(3, 3, 2);
         worthIs(x, 0, 1, 2, 9);
         worthIs(x, 0, 2, 4, 9);
         worthIs(x, 0, 3, 2, 9);
@@ -114,7 +107,7 @@ public final class TestChances {
     }
 
     private static void worthByPairs() {
-        LeastAlone x = at(3, 2, 3);
+        LeastAlone x = Inns.at(3, 2, 3);
         worthIs(x, 0, 1, 1, 4);
         worthIs(x, 0, 2, 1, 4);
         meanIs(x, 0, 0, 1, 4);
@@ -127,7 +120,7 @@ public final class TestChances {
     }
 
     private static void worthWithFools() {
-        LeastAlone x = at(3, 2, 0);
+        LeastAlone x = Inns.at(3, 2, 0);
         x.fool(1, 1);
         worthIs(x, 0, 1, 0, 1);
         worthIs(x, 0, 2, 1, 2);
@@ -149,7 +142,7 @@ public final class TestChances {
     }
 
     private static void best() {
-        LeastAlone x = at(2, 3, 1);
+        LeastAlone x = Inns.at(2, 3, 1);
         DUE.is("best by the greatest", x.best(0), 3);
         x.rule(0);
         DUE.is("best by the least", x.best(1), 1);
@@ -160,20 +153,20 @@ public final class TestChances {
     }
 
     private static void extremes() {
-        LeastAlone x = at(6, 6, 0);
+        LeastAlone x = Inns.at(6, 6, 0);
         x.weight(1, 7);
         // Five others, none of them with number 1: five of twelve each.
         worthIs(x, 0, 1, 3125, 248832);
         x.weight(1, 0);
         worthIs(x, 5, 1, 1, 1);
         DUE.is("best of six", x.best(5), 1);
-        x = at(6, 2, 0);
+        x = Inns.at(6, 2, 0);
         // Of 64 rows those with one alone, of either number: twice six.
         nobodyIs(x, 13, 16);
         x.rule(3);
         // Those with two of either number: twice fifteen.
         nobodyIs(x, 17, 32);
-        x = at(6, 6, 3);
+        x = Inns.at(6, 6, 3);
         // No number just twice: 6, 51, 411, 33, 3111, 111111 in 6 + 180 + 1800 + 300 + 7200 + 720 of 46656 rows.
         nobodyIs(x, 7, 32);
     }
@@ -214,7 +207,7 @@ public final class TestChances {
     }
 
     private static void rest() {
-        LeastAlone x = at(2, 2, 0);
+        LeastAlone x = Inns.at(2, 2, 0);
         restIs(x, 1, 1, 0);
         gapIs(x, 1, 0, 1);
         x.rule(1);
@@ -223,10 +216,10 @@ public final class TestChances {
         gapIs(x, 8, 0, 1);
         x.rule(3);
         restIs(x, 2, 0, 2);
-        x = at(3, 3, 0);
+        x = Inns.at(3, 3, 0);
         restIs(x, 4, 2, 1, 1);
         gapIs(x, 4, 1, 32);
-        x = at(3, 2, 0);
+        x = Inns.at(3, 2, 0);
         // With all on one number the other one wins for sure; by halves no number is better.
         restIs(x, 2, 1, 1);
         gapIs(x, 2, 0, 1);
@@ -235,7 +228,7 @@ public final class TestChances {
     }
 
     private static void restAfterChanges() {
-        LeastAlone x = at(3, 3, 0);
+        LeastAlone x = Inns.at(3, 3, 0);
         restIs(x, 4, 2, 1, 1);
         x.fool(1, 3);
         x.weight(3, 5);

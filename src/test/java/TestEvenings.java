@@ -16,13 +16,6 @@ public final class TestEvenings {
         DUE.end("TestEvenings");
     }
 
-    private static void write(LeastAlone x, String slips) {
-        x.wipe();
-        for (char sign : slips.toCharArray()) {
-            x.say(sign);
-        }
-    }
-
     private static void newObject() {
         LeastAlone x = new LeastAlone();
         DUE.is("new: signs", x.told(0), 0);
@@ -72,7 +65,7 @@ public final class TestEvenings {
         LeastAlone x = new LeastAlone();
         x.rule(2);
         x.image(1);
-        write(x, "12");
+        Inns.write(x, "12");
         x.inn(2, 3);
         DUE.is("inn keeps the law", x.told(3), 2);
         DUE.is("inn keeps the pad", x.told(0), 2);
@@ -118,7 +111,7 @@ public final class TestEvenings {
     }
 
     private static void faultOf(LeastAlone x, String slips, int want) {
-        write(x, slips);
+        Inns.write(x, slips);
         DUE.is("fault of " + slips, x.fault(), want);
     }
 
@@ -144,7 +137,7 @@ public final class TestEvenings {
 
     private static void faultByTheInn() {
         LeastAlone x = new LeastAlone();
-        write(x, "125");
+        Inns.write(x, "125");
         DUE.is("125 of four", x.fault(), 3);
         x.inn(3, 5);
         DUE.is("125 of three", x.fault(), LeastAlone.NONE);
@@ -159,7 +152,7 @@ public final class TestEvenings {
     }
 
     private static void winsAre(LeastAlone x, String slips, int number, int men) {
-        write(x, slips);
+        Inns.write(x, slips);
         DUE.is("wins(0) of " + slips, x.wins(0), number);
         DUE.is("wins(1) of " + slips, x.wins(1), men);
     }
@@ -213,7 +206,7 @@ public final class TestEvenings {
         DUE.is("wins(2) with a fault", x.wins(2), LeastAlone.OUTSIDE);
         DUE.is("wins(-1)", x.wins(-1), LeastAlone.OUTSIDE);
         DUE.is("wins(0) without slips", x.wins(0), LeastAlone.NO);
-        write(x, "12?");
+        Inns.write(x, "12?");
         DUE.is("wins(0) of 12?", x.wins(0), LeastAlone.NO);
         x.say('3');
         DUE.is("wins(0) of 12?3", x.wins(0), LeastAlone.STATE);
@@ -222,13 +215,13 @@ public final class TestEvenings {
         x.say('3');
         DUE.is("wins(0) of 12?33", x.wins(0), LeastAlone.NO);
         DUE.is("refused wins keeps the pad", x.told(0), 5);
-        write(x, "?123");
+        Inns.write(x, "?123");
         DUE.is("wins(0) of ?123", x.wins(0), LeastAlone.STATE);
-        write(x, "012?");
+        Inns.write(x, "012?");
         DUE.is("wins(1) of 012?", x.wins(1), LeastAlone.STATE);
         // What was wiped from the pad does not count.
-        write(x, "1234?");
-        write(x, "1234");
+        Inns.write(x, "1234?");
+        Inns.write(x, "1234");
         DUE.is("wins(0) of 1234", x.wins(0), 1);
     }
 }

@@ -18,20 +18,6 @@ public final class TestFriends {
         DUE.end("TestFriends");
     }
 
-    private static LeastAlone at(int n, int m, int law) {
-        LeastAlone x = new LeastAlone();
-        x.inn(n, m);
-        x.rule(law);
-        return x;
-    }
-
-    private static void write(LeastAlone x, String slips) {
-        x.wipe();
-        for (char sign : slips.toCharArray()) {
-            x.say(sign);
-        }
-    }
-
     private static void pactIs(LeastAlone x, int set, String numbers, long upper, long lower) {
         int place = 0;
         for (int man = 0; man < x.told(1); man++) {
@@ -43,25 +29,25 @@ public final class TestFriends {
     }
 
     private static void friends() {
-        LeastAlone x = at(2, 2, 0);
+        LeastAlone x = Inns.at(2, 2, 0);
         pactIs(x, 1, "1", 1, 2);
         pactIs(x, 2, "1", 1, 2);
         pactIs(x, 3, "12", 1, 1);
         x.rule(1);
         pactIs(x, 3, "12", 1, 1);
         pactIs(x, 2, "2", 1, 2);
-        x = at(3, 2, 0);
+        x = Inns.at(3, 2, 0);
         // 1 1: lost by a third 2 alone; 1 2: whoever the third joins, the other is alone.
         pactIs(x, 3, "12", 1, 1);
         pactIs(x, 5, "12", 1, 1);
         pactIs(x, 7, "112", 1, 1);
         pactIs(x, 4, "1", 1, 4);
-        x = at(6, 6, 1);
+        x = Inns.at(6, 6, 1);
         pactIs(x, 63, "111112", 1, 1);
     }
 
     private static void friendsByPairs() {
-        LeastAlone x = at(3, 2, 3);
+        LeastAlone x = Inns.at(3, 2, 3);
         // 1 1: whole, if the third writes 2, and nothing otherwise; 1 2: half in any case.
         pactIs(x, 3, "11", 1, 2);
         pactIs(x, 1, "1", 1, 4);
@@ -74,7 +60,7 @@ public final class TestFriends {
     }
 
     private static void friendsAndFools() {
-        LeastAlone x = at(3, 3, 0);
+        LeastAlone x = Inns.at(3, 3, 0);
         x.fool(1, 1);
         // A fool of the set writes what they agree on.
         pactIs(x, 3, "12", 1, 1);
@@ -104,13 +90,13 @@ public final class TestFriends {
     }
 
     private static void spyIs(LeastAlone x, String slips, int man, int number, long upper, long lower) {
-        write(x, slips);
+        Inns.write(x, slips);
         DUE.is("spy(" + man + ") at " + slips, x.spy(man), number);
         DUE.parts("spied(" + man + ") at " + slips, x.spied(man, 0), x.spied(man, 1), upper, lower);
     }
 
     private static void spy() {
-        LeastAlone x = at(3, 3, 0);
+        LeastAlone x = Inns.at(3, 3, 0);
         spyIs(x, "000", 0, 1, 1, 1);
         spyIs(x, "300", 0, 1, 1, 1);
         spyIs(x, "311", 0, 2, 1, 1);
@@ -127,7 +113,7 @@ public final class TestFriends {
     }
 
     private static void spyByPairsAndFools() {
-        LeastAlone x = at(3, 3, 3);
+        LeastAlone x = Inns.at(3, 3, 3);
         spyIs(x, "020", 0, 2, 1, 2);
         spyIs(x, "000", 1, 1, 0, 1);
         spyIs(x, "?12", 0, 1, 1, 2);
@@ -149,13 +135,13 @@ public final class TestFriends {
         DUE.is("spied(0, 2)", x.spied(0, 2), LOST - 2);
         DUE.is("spied(0, -1)", x.spied(0, -1), LOST - 2);
         DUE.is("spied(0, 1)", x.spied(0, 1), LOST - 5);
-        write(x, "12345");
+        Inns.write(x, "12345");
         DUE.is("spy(0) of five slips", x.spy(0), LeastAlone.NO);
         DUE.is("spied(3, 0) of five slips", x.spied(3, 0), LOST - 5);
     }
 
     private static void steps() {
-        LeastAlone x = at(3, 3, 0);
+        LeastAlone x = Inns.at(3, 3, 0);
         int[] least = {1, 2, 1, 2};
         for (int k = 1; k <= 4; k++) {
             DUE.is("steps(" + k + ")", x.steps(k), least[k - 1]);
@@ -166,12 +152,12 @@ public final class TestFriends {
         x.weight(1, 5);
         DUE.is("steps(1) by weights", x.steps(1), 2);
         DUE.is("steps(2) by weights", x.steps(2), 1);
-        x = at(3, 3, 1);
+        x = Inns.at(3, 3, 1);
         int[] greatest = {3, 1, 2, 1, 2};
         for (int k = 1; k <= 5; k++) {
             DUE.is("steps(" + k + ") by the greatest", x.steps(k), greatest[k - 1]);
         }
-        x = at(2, 3, 0);
+        x = Inns.at(2, 3, 0);
         DUE.is("steps(2) of two", x.steps(2), 1);
         x.rule(3);
         x.weight(3, 2);
@@ -189,18 +175,18 @@ public final class TestFriends {
     }
 
     private static void late() {
-        lateIs(at(2, 3, 0), "11", LeastAlone.NONE);
+        lateIs(Inns.at(2, 3, 0), "11", LeastAlone.NONE);
         // The second can not win, and the least number that brings him nothing leaves the 3 alone.
-        lateIs(at(2, 3, 1), "31", 1);
-        lateIs(at(2, 2, 3), "11", 3);
-        lateIs(at(3, 3, 0), "211", 1);
-        lateIs(at(3, 3, 1), "311", 1);
-        lateIs(at(3, 3, 3), "111", LeastAlone.NONE);
-        lateIs(at(6, 2, 3), "221111", 3);
+        lateIs(Inns.at(2, 3, 1), "31", 1);
+        lateIs(Inns.at(2, 2, 3), "11", 3);
+        lateIs(Inns.at(3, 3, 0), "211", 1);
+        lateIs(Inns.at(3, 3, 1), "311", 1);
+        lateIs(Inns.at(3, 3, 3), "111", LeastAlone.NONE);
+        lateIs(Inns.at(6, 2, 3), "221111", 3);
     }
 
     private static void lateWithFools() {
-        LeastAlone x = at(2, 2, 0);
+        LeastAlone x = Inns.at(2, 2, 0);
         x.fool(1, 2);
         lateIs(x, "12", 1);
         x.fool(0, 2);

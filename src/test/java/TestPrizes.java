@@ -21,19 +21,12 @@ public final class TestPrizes {
         DUE.end("TestPrizes");
     }
 
-    private static LeastAlone at(int n, int m, int law) {
-        LeastAlone x = new LeastAlone();
-        x.inn(n, m);
-        x.rule(law);
-        return x;
-    }
-
     private static void prizeIs(LeastAlone x, int p, int c, long upper, long lower) {
         DUE.parts("prize(" + p + ", " + c + ")", x.prize(p, c, 0), x.prize(p, c, 1), upper, lower);
     }
 
     private static void prize() {
-        LeastAlone x = at(3, 2, 0);
+        LeastAlone x = Inns.at(3, 2, 0);
         prizeIs(x, 3, 0, 4, 1);
         prizeIs(x, 1, 0, 4, 3);
         prizeIs(x, 999, 0, 1332, 1);
@@ -47,7 +40,7 @@ public final class TestPrizes {
     }
 
     private static void prizeRefused() {
-        LeastAlone x = at(2, 2, 0);
+        LeastAlone x = Inns.at(2, 2, 0);
         x.weight(2, 0);
         DUE.is("prize(1, 0, 0): nobody ever", x.prize(1, 0, 0), LOST - 3);
         DUE.is("prize(1, 99, 1): nobody ever", x.prize(1, 99, 1), LOST - 3);
@@ -92,7 +85,7 @@ public final class TestPrizes {
     }
 
     private static void fits() {
-        LeastAlone x = at(3, 3, 0);
+        LeastAlone x = Inns.at(3, 3, 0);
         fitsAre(x, 27, "111");
         DUE.is("fits(3)", x.fits(3), LeastAlone.NONE);
         DUE.is("fits(-2)", x.fits(-2), LeastAlone.NONE);
@@ -113,7 +106,7 @@ public final class TestPrizes {
     }
 
     private static void fitsByLaws() {
-        LeastAlone x = at(3, 3, 3);
+        LeastAlone x = Inns.at(3, 3, 3);
         x.seen(0, 1, 2);
         // Man 1 and just one other with 2, the third with another number.
         fitsAre(x, 4, "122");
@@ -135,7 +128,7 @@ public final class TestPrizes {
     }
 
     private static void fitsAtTheLargest() {
-        LeastAlone x = at(6, 6, 0);
+        LeastAlone x = Inns.at(6, 6, 0);
         fitsAre(x, 46656, "111111");
         DUE.is("could(5)", x.could(5), 126);
         x.seen(1, 5, 6);
@@ -145,7 +138,7 @@ public final class TestPrizes {
     }
 
     private static void fitsWithoutAny() {
-        LeastAlone x = at(3, 3, 0);
+        LeastAlone x = Inns.at(3, 3, 0);
         x.seen(1, 0, 1);
         x.seen(1, 0, 2);
         fitsAre(x, 0, "");
@@ -163,7 +156,7 @@ public final class TestPrizes {
     }
 
     private static void could() {
-        LeastAlone x = at(3, 3, 0);
+        LeastAlone x = Inns.at(3, 3, 0);
         DUE.is("could(2) of all", x.could(2), 14);
         x.seen(0, 1, 2);
         DUE.is("could(0)", x.could(0), 10);
@@ -184,7 +177,7 @@ public final class TestPrizes {
 
     private static void year() {
         // x by 0: 74, 5624; 28652, 51790; 17641, 12409; 13231, 9344: slips 11, 11, 22, 21.
-        LeastAlone x = at(2, 2, 0);
+        LeastAlone x = Inns.at(2, 2, 0);
         yearIs(x, 0, 1, 1, 0, 0);
         yearIs(x, 0, 3, 3, 0, 0);
         yearIs(x, 0, 4, 3, 0, 1);
@@ -196,7 +189,7 @@ public final class TestPrizes {
     }
 
     private static void yearByWeightsAndFools() {
-        LeastAlone x = at(2, 2, 0);
+        LeastAlone x = Inns.at(2, 2, 0);
         x.weight(1, 3);
         // By 4: 2, 0; 0, 2; 1, 1; 3, 0: slips 11, 11, 11, 21.
         yearIs(x, 0, 4, 3, 0, 1);
@@ -223,7 +216,7 @@ public final class TestPrizes {
     }
 
     private static void images() {
-        LeastAlone x = at(3, 3, 2);
+        LeastAlone x = Inns.at(3, 3, 2);
         x.weight(2, 5);
         x.fool(1, 3);
         x.seen(0, 1, 2);
@@ -275,7 +268,7 @@ public final class TestPrizes {
     }
 
     private static void told() {
-        LeastAlone x = at(2, 6, 0);
+        LeastAlone x = Inns.at(2, 6, 0);
         int[] outside = {-1, 5, 9, 10, 17, 19, 22, 25, 26, Integer.MIN_VALUE, Integer.MAX_VALUE};
         for (int what : outside) {
             DUE.is("told(" + what + ")", x.told(what), LeastAlone.OUTSIDE);

@@ -2,12 +2,18 @@
 final class Due {
     private int wrong = 0;
     private int calls = 0;
+    private String sentence = "";
+
+    /** What the document says, that the next answers hold to. */
+    void about(String newSentence) {
+        sentence = newSentence + ": ";
+    }
 
     void is(String call, long got, long want) {
         calls++;
         if (got != want) {
             wrong++;
-            System.out.println(call + " answered " + got + ", due is " + want);
+            System.out.println(sentence + call + " answered " + got + ", due is " + want);
         }
     }
 

@@ -1,9 +1,14 @@
+import java.io.IOException;
 import java.lang.reflect.Constructor;
 import java.lang.reflect.Field;
 import java.lang.reflect.Method;
 import java.lang.reflect.Modifier;
+import java.nio.charset.StandardCharsets;
+import java.nio.file.Files;
+import java.nio.file.Path;
 import java.util.Arrays;
 import java.util.HashSet;
+import java.util.List;
 import java.util.Set;
 import java.util.TreeSet;
 
@@ -20,7 +25,8 @@ public final class TestFace {
     };
     private static final String[] CONSTANTS = {"NONE", "UNKNOWN", "OUTSIDE", "STATE", "FULL", "NO", "LOST"};
 
-    public static void main(String[] args) {
+    public static void main(String[] args) throws IOException {
+        asTheDocumentWritesIt();
         int modifiers = LeastAlone.class.getModifiers();
         DUE.holds("public and final", Modifier.isPublic(modifiers) && Modifier.isFinal(modifiers));
         methods();
@@ -28,6 +34,26 @@ public final class TestFace {
         constructors();
         inside();
         DUE.end("TestFace");
+    }
+
+    /** Line by line, with the names of the parameters: the source's public lines are the document's, in its order. */
+    private static void asTheDocumentWritesIt() throws IOException {
+        String document = Files.readString(Path.of("../shared/DOC.md"), StandardCharsets.UTF_8);
+        int from = document.indexOf("```java", document.indexOf("## The public face"));
+        String face = document.substring(from, document.indexOf("```", from + 3));
+        String source = Files.readString(Path.of("src/main/java/LeastAlone.java"), StandardCharsets.UTF_8);
+        List<String> due = publicLines(face);
+        List<String> got = publicLines(source);
+        DUE.holds("the document shows 2 lines of constants, 1 constructor, 29 methods, the class", due.size() == 33);
+        DUE.is("public lines", got.size(), due.size());
+        for (int i = 0; i < due.size() && i < got.size(); i++) {
+            DUE.holds(got.get(i) + " stands for " + due.get(i), got.get(i).equals(due.get(i)));
+        }
+    }
+
+    private static List<String> publicLines(String text) {
+        return text.lines().map(String::strip).filter(line -> line.startsWith("public "))
+                .map(line -> line.replaceAll("\\s*[{;]$", "")).toList();
     }
 
     private static String name(Method method) {
@@ -46,6 +72,8 @@ public final class TestFace {
                 shown.add(name(method));
             } else {
                 DUE.holds(name(method) + " is private", Modifier.isPrivate(method.getModifiers()));
+                DUE.holds(name(method) + " bears a name of its own", !faceNames().contains(method.getName()));
+                DUE.holds(name(method) + " takes few", method.getParameterCount() <= 7);
             }
         }
         DUE.holds("the public methods: " + shown, shown.equals(new TreeSet<>(Arrays.asList(FACE))));
@@ -58,10 +86,14 @@ public final class TestFace {
             DUE.holds(field + " is final, if static", !Modifier.isStatic(m) || Modifier.isFinal(m));
             if (Modifier.isPublic(m)) {
                 shown.add(field.getName());
+                Class<?> type = field.getName().equals("LOST") ? long.class : int.class;
+                DUE.holds(field + " is static, of type " + type, Modifier.isStatic(m) && field.getType() == type);
             } else {
                 DUE.holds(field + " is private", Modifier.isPrivate(m));
             }
         }
+        long own = Arrays.stream(LeastAlone.class.getDeclaredFields()).filter(f -> !Modifier.isStatic(f.getModifiers())).count();
+        DUE.holds("an object has few fields", own <= 20);
         DUE.holds("the constants: " + shown, shown.equals(new TreeSet<>(Arrays.asList(CONSTANTS))));
     }
 
@@ -71,11 +103,16 @@ public final class TestFace {
         DUE.holds("it is public and takes nothing", Modifier.isPublic(all[0].getModifiers()) && all[0].getParameterCount() == 0);
     }
 
-    private static void inside() {
+    private static Set<String> faceNames() {
         Set<String> names = new HashSet<>();
         for (String one : FACE) {
             names.add(one.substring(one.indexOf(' ') + 1, one.indexOf('(')));
         }
+        return names;
+    }
+
+    private static void inside() {
+        Set<String> names = faceNames();
         Class<?>[] classes = LeastAlone.class.getDeclaredClasses();
         DUE.holds("at most twelve classes", classes.length + 1 <= 12);
         for (Class<?> one : classes) {
